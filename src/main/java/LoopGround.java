@@ -888,7 +888,8 @@ public final class LoopGround {
 
         int loopCount;
         int ringCount;
-        private final boolean[] passed = new boolean[STRANDS_MOST];
+        // A bit a strand: so many booleans would be most of what an object takes.
+        private final long[] passed = new long[STRANDS_MOST / 64 + 1];
         private final int[] firstStrand = new int[EDGES_MOST];
         private final int[] counts = new int[EDGES_MOST];
         private final int[] flows = new int[SLOTS_MOST];
@@ -964,12 +965,12 @@ public final class LoopGround {
         void countLoops() {
             loopCount = 0;
             ringCount = 0;
-            for (int i = 0; i < strands; i++) {
-                passed[i] = false;
+            for (int i = 0; i <= strands / 64; i++) {
+                passed[i] = 0;
             }
             for (int edge = 0; edge < told.edges; edge++) {
                 for (int i = 0; i < counts[edge]; i++) {
-                    if (!passed[firstStrand[edge] + i]) {
+                    if (!isPassed(firstStrand[edge] + i)) {
                         begin(told.firstSide[edge], i);
                         loopCount++;
                         ringCount += closeLoop() ? 1 : 0;
@@ -978,12 +979,17 @@ public final class LoopGround {
             }
         }
 
+        private boolean isPassed(int number) {
+            return (passed[number / 64] >> (number % 64) & 1) != 0;
+        }
+
         /** Goes once round from the start; true if it always turns to one hand. */
         private boolean closeLoop() {
             boolean on = false;
             boolean off = false;
             for (int k = 0; k < strands; k++) {
-                passed[strandNumber()] = true;
+                int number = strandNumber();
+                passed[number / 64] |= 1L << (number % 64);
                 step();
                 on = on || turnedOn;
                 off = off || !turnedOn;

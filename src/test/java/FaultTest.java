@@ -150,6 +150,10 @@ public final class FaultTest {
         fault(6, T + "line a of 0 1 1;line b of 0 0 2^;");
         fault(6, "piece 0 0 1;piece 1 2 2;line a of 0 2 0^;");
         fault(6, "piece 0 0 1;piece 1 2 2;line a of 1 3 2^;");
+        // each of the PIECES is looked at: only the first, the second, the last one does not fit
+        fault(6, Check.FOUR_POINTS + "line a of 0 2 1 1 0 0^;");
+        fault(6, Check.FOUR_POINTS + "line a of 1 2 0 0 0 0^;");
+        fault(6, Check.FOUR_POINTS + "line a of 0 0 1 1 2 0^;");
         fault(6, "piece 0 0 1;piece 1 2 2;line a of 1 1 1^;");
     }
 

@@ -156,6 +156,7 @@ public final class LinesTest {
         Check.due("traced", x.traced(-1, 0), -2);
         Check.due("told lines still", x.loops(0, 2), 1);
         exactly18000();
+        near18000();
     }
 
     private static void exactly18000() {
@@ -168,5 +169,28 @@ public final class LinesTest {
         Check.due("twist", x.twist(0, 98), 18002);
         Check.due("loops", x.loops(-1, 0), -2);
         Check.due("traced", x.traced(-1, 0), -2);
+    }
+
+    /** Numbers that are together 18000, 18001 and 18002, found by trying how lines on two handles are twisted. */
+    private static void near18000() {
+        LoopGround x = Check.on(Check.TWO_HANDLES + "line a of 1 0 0 0 1 0 0 0 0;line b of 0 1 0 0 1 1 0 0 0;"
+            + "line c of 0 0 1 0 0 0 0 1 1;line d of 0 0 0 1 0 0 0 0 1;");
+        boolean[] found = new boolean[3];
+        java.util.Random random = new java.util.Random(5);
+        for (int tries = 0; tries < 400000 && !(found[0] && found[1] && found[2]); tries++) {
+            x.lay(random.nextInt(2));
+            long all = 0;
+            for (int k = 0; k < 8 && all < 18000; k++) {
+                all = x.twist(random.nextInt(2), random.nextInt(25) - 12);
+            }
+            if (all >= 18000 && all <= 18002) {
+                found[(int) all - 18000] = true;
+                Check.due("loops of " + all, x.loops(-1, 0), all == 18000 ? 1 : -2);
+                Check.due("traced of " + all, x.traced(-1, 0) == -2, all != 18000);
+            }
+        }
+        for (int i = 0; i < 3; i++) {
+            Check.due("found " + (18000 + i), found[i], true);
+        }
     }
 }

@@ -98,7 +98,7 @@ public final class SketchTest {
         // twice round, and a RING
         isNot(x, "0bcbc", -2);
         isNot(x, "0abcabc", -2);
-        // numbers that do not FIT
+        // the numbers of that RING, in another order
         isNot(x, "0abcacb", -2);
         // of 2 3 5, once in its order and once not
         isTrue(x, "0acbcbcacbc", 2, 3, 5);
@@ -149,5 +149,7 @@ public final class SketchTest {
         }
         isTrue(x, there + "bc" + back, 0, 1, 1);
         isNot(x, there.toString() + back, -2);
+        LoopGround two = Check.on(Check.TWO_HANDLES);
+        isTrue(two, "0" + "aa".repeat(798) + "bfe", 0, 1, 0, 0, 1, 1, 0, 0, 0);
     }
 }
