@@ -3,7 +3,8 @@ public final class LoopGround {
     public static final int NONE = -1;
     public static final int GAP = -1000000;
 
-    private static final int SPENT = -2;
+    // Most calls have a second way to refuse: SPENT, STUCK, too long, not TRUE.
+    private static final int REFUSED = -2;
     private static final int TAPE_MOST = 1600;
     private static final int PIECES_MOST = 12;
     private static final int SLOTS_MOST = 36;
@@ -106,7 +107,7 @@ public final class LoopGround {
     public long number(int line, int edge) {
         long[] numbers = numbersOf(line);
         if (numbers == null || !isEdge(edge)) {
-            return -2;
+            return REFUSED;
         }
         return numbers[edge];
     }
@@ -117,7 +118,7 @@ public final class LoopGround {
             return NONE;
         }
         if (!tracer.load(told, numbers)) {
-            return SPENT;
+            return REFUSED;
         }
         tracer.countLoops();
         if (what == 0) {
@@ -135,7 +136,7 @@ public final class LoopGround {
             return NONE;
         }
         if (!tracer.load(told, numbers)) {
-            return SPENT;
+            return REFUSED;
         }
         return tracer.edgeAt(i);
     }
@@ -145,7 +146,7 @@ public final class LoopGround {
         if (road == null || road.kind == Road.NOT_SINGLE) {
             return NONE;
         }
-        return road.kind == Road.STUCK ? -2 : road.count;
+        return road.kind == Road.STUCK ? REFUSED : road.count;
     }
 
     public int flip(int line, int i) {
@@ -232,12 +233,12 @@ public final class LoopGround {
         copyRow(told.rows[line], work);
         for (int times = 0; times < n; times++) {
             if (!mover.goThrough(work, word, null)) {
-                return SPENT;
+                return REFUSED;
             }
         }
         long before = total(work);
         if (!mover.goThrough(work, word, null)) {
-            return SPENT;
+            return REFUSED;
         }
         return before > 0 ? total(work) * 1000 / before : NONE;
     }
@@ -246,14 +247,14 @@ public final class LoopGround {
         if (!canStretch(word, line) || !isEdge(row) || !isEdge(column)) {
             return NONE;
         }
-        return noteTable(word, line) ? noted.at(row, column) : SPENT;
+        return noteTable(word, line) ? noted.at(row, column) : REFUSED;
     }
 
     public int polynomial(int word, int line, int i) {
         if (!canStretch(word, line) || i < 0 || i > told.edges) {
             return NONE;
         }
-        return noteTable(word, line) ? noted.coefficient(i) : SPENT;
+        return noteTable(word, line) ? noted.coefficient(i) : REFUSED;
     }
 
     public int least(int word, int m) {
@@ -262,7 +263,7 @@ public final class LoopGround {
             return NONE;
         }
         if (!counter.begin(told, m)) {
-            return SPENT;
+            return REFUSED;
         }
         for (int k = 0; k < Counter.ROWS_MOST && counter.nextFit(); k++) {
             if (hasLoop(counter.numbers) && leavesAsItIs(word, counter.numbers)) {
@@ -304,7 +305,7 @@ public final class LoopGround {
 
     private long act(boolean right) {
         if (!right) {
-            return SPENT;
+            return REFUSED;
         }
         acts.keep(work);
         return total(work);
@@ -327,7 +328,7 @@ public final class LoopGround {
         }
         drawing.leaveOut(told);
         if (!drawing.isTrue(told, tracer)) {
-            return -2;
+            return REFUSED;
         }
         copyRow(drawing.numbers, row);
         rowLies = true;
@@ -1258,7 +1259,7 @@ public final class LoopGround {
         long leastCrossings(long[] numbers, int with) {
             Road road = roads[with];
             if (!passFlips(numbers, road, false, null)) {
-                return SPENT;
+                return REFUSED;
             }
             long e = numbers[road.e];
             long f = numbers[road.f];
