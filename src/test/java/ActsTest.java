@@ -172,51 +172,12 @@ public final class ActsTest {
         Check.due("acts", x.about(6), 1);
     }
 
-    /** From b = 1 0 1, EDGE 2 the sum of the others: a by -k adds k times EDGE 0 to EDGE 1, b by k the other way. */
-    private static long growTo(LoopGround x, long zero, long one) {
-        java.util.List<Long> steps = new java.util.ArrayList<>();
-        long p = zero;
-        long q = one;
-        while (q != 0) {
-            steps.add(p / q);
-            long rest = p % q;
-            p = q;
-            q = rest;
-        }
-        // the last of the steps leads from 1 0 to another 1: it is done first
-        x.lay(steps.size() % 2 == 0 ? 1 : 0);
-        long answer = 0;
-        for (int i = steps.size() - 1; i >= 0; i--) {
-            boolean alongB = i % 2 == 0;
-            answer = x.twist(alongB ? 1 : 0, (int) (alongB ? steps.get(i) : -steps.get(i)));
-        }
-        return answer;
-    }
-
-    private static boolean slow(long p, long q) {
-        long a = p;
-        long b = q;
-        while (b != 0) {
-            if (a / b > 99) {
-                return false;
-            }
-            long rest = a % b;
-            a = b;
-            b = rest;
-        }
-        return a == 1;
-    }
-
     private static void justAboveTheLimit() {
-        long limit = 100_000_000_000_000L;
-        for (long sum = limit - 1; sum <= limit + 1; sum++) {
-            long zero = (long) (sum * 0.618);
-            while (!slow(zero, sum - zero)) {
-                zero++;
-            }
+        for (long sum = Slopes.LIMIT - 1; sum <= Slopes.LIMIT + 1; sum++) {
+            long zero = Slopes.rowWith(sum, 0.61803398, 1)[0];
             LoopGround x = Check.on(Check.TORUS_LINES);
-            long got = growTo(x, zero, sum - zero);
-            if (sum <= limit) {
+            long got = Slopes.growTo(x, zero, sum - zero);
+            if (sum <= Slopes.LIMIT) {
                 Check.due("twist to " + sum, got, 2 * sum);
                 Check.numbers(x, NONE, zero, sum - zero, sum);
                 Check.due("cross", x.cross(-1, 0), zero);

@@ -17,154 +17,136 @@ public final class FaultTest {
         Check.finish(FaultTest.class);
     }
 
-    private static void fault(int kind, String marked) {
-        int place = marked.indexOf('^');
-        String text = marked.substring(0, place) + marked.substring(place + 1);
-        LoopGround x = new LoopGround();
-        Check.feed(x, text);
-        Check.due("ground() of " + marked, x.ground(), LoopGround.NONE);
-        Check.due("fault(0) of " + marked, x.fault(0), kind);
-        Check.due("fault(1) of " + marked, x.fault(1), place);
-    }
-
-    private static void lines(int count, String text) {
-        LoopGround x = new LoopGround();
-        Check.feed(x, text);
-        Check.due("ground() of " + text, x.ground(), count);
-        Check.due("fault(0) of " + text, x.fault(0), 0);
-        Check.due("fault(1) of " + text, x.fault(1), LoopGround.NONE);
-    }
-
     private static void noToken() {
-        fault(1, "^$");
-        fault(1, " \n ^\t");
-        fault(1, "^Piece 0 1 2;");
-        fault(1, "piece 0 1 2^,");
-        fault(1, "piece ^00000 1 2;");
-        fault(1, "piece ^0a 1 2;");
-        fault(1, "piece 0 ^1piece");
-        fault(1, "piece 0^A 1 2;");
-        fault(1, T + "line ^abcdefghi of 0 1 1;");
-        fault(1, T + "line a of 0 1 ^1word w is a 1;");
-        fault(1, L + "word w is a -^10x;");
-        fault(1, "^abcdefghi");
-        fault(1, "^\u00e9");
-        fault(1, "piece 0 1 2;\0^".replace("\0^", "^\0"));
+        Check.fault(1, "^$");
+        Check.fault(1, " \n ^\t");
+        Check.fault(1, "^Piece 0 1 2;");
+        Check.fault(1, "piece 0 1 2^,");
+        Check.fault(1, "piece ^00000 1 2;");
+        Check.fault(1, "piece ^0a 1 2;");
+        Check.fault(1, "piece 0 ^1piece");
+        Check.fault(1, "piece 0^A 1 2;");
+        Check.fault(1, T + "line ^abcdefghi of 0 1 1;");
+        Check.fault(1, T + "line a of 0 1 ^1word w is a 1;");
+        Check.fault(1, L + "word w is a -^10x;");
+        Check.fault(1, "^abcdefghi");
+        Check.fault(1, "^\u00e9");
+        Check.fault(1, "piece 0 1 2;\0^".replace("\0^", "^\0"));
     }
 
     private static void misplaced() {
-        fault(2, "^loop");
-        fault(2, "^;");
-        fault(2, "^-");
-        fault(2, "^0");
-        fault(2, "^of");
-        fault(2, "piece^");
-        fault(2, "piece \n ^");
-        fault(2, "piece 0 1 2^");
-        fault(2, "piece ^-1 0 1;");
-        fault(2, "piece 0 1 ^;");
-        fault(2, "piece 0 1 2 ^3;");
-        fault(2, "piece 0 1 2;^;");
-        fault(2, T + "^a");
-        fault(2, T + "line ^of of 0 1 1;");
-        fault(2, T + "line ^piece of 0 1 1;");
-        fault(2, T + "line ^7 of 0 1 1;");
-        fault(2, T + "line a ^is 0 1 1;");
-        fault(2, T + "line a ^off 0 1 1;");
-        fault(2, T + "line a of ^;");
-        fault(2, T + "line a of 0 1 ^;");
-        fault(2, T + "line a of 0 1 1 ^0;");
-        fault(2, T + "line a of 0 1 1 ^100;");
-        fault(2, T + "line a of 0 1 ^-1;");
-        fault(2, T + "line a of 0 1 ^b");
-        fault(2, L + "^piece 3 4 5;");
-        fault(2, L + "word w is a 1;^piece 3 4 5;");
-        fault(2, L + "word ^is is a 1;");
-        fault(2, L + "word ^word is a 1;");
-        fault(2, L + "word w ^of a 1;");
-        fault(2, L + "word w is ^;");
-        fault(2, L + "word w is ^1;");
-        fault(2, L + "word w is ^line 1;");
-        fault(2, L + "word w is a ^;");
-        fault(2, L + "word w is a ^b;");
-        fault(2, L + "word w is a -^-1;");
-        fault(2, L + "word w is a - ^;");
-        fault(2, L + "word w is a 1 ^1;");
-        fault(2, L + "word w is a 1 ^of;");
-        fault(2, L + "word w is a 1^");
-        fault(2, L + "word w is a 1 a 1 a 1 a 1 a 1 a 1 a 1 a 1 ^a 1;");
-        fault(2, L + "word w is a 1 a 1 a 1 a 1 a 1 a 1 a 1 a 1 ^z 1;");
-        fault(2, L + "line b of 0 1 1;line c of 0 1 1;line d of 0 1 1;line e of 0 1 1;line f of 0 1 1;"
+        Check.fault(2, "^loop");
+        Check.fault(2, "^;");
+        Check.fault(2, "^-");
+        Check.fault(2, "^0");
+        Check.fault(2, "^of");
+        Check.fault(2, "piece^");
+        Check.fault(2, "piece \n ^");
+        Check.fault(2, "piece 0 1 2^");
+        Check.fault(2, "piece ^-1 0 1;");
+        Check.fault(2, "piece 0 1 ^;");
+        Check.fault(2, "piece 0 1 2 ^3;");
+        Check.fault(2, "piece 0 1 2;^;");
+        Check.fault(2, T + "^a");
+        Check.fault(2, T + "line ^of of 0 1 1;");
+        Check.fault(2, T + "line ^piece of 0 1 1;");
+        Check.fault(2, T + "line ^7 of 0 1 1;");
+        Check.fault(2, T + "line a ^is 0 1 1;");
+        Check.fault(2, T + "line a ^off 0 1 1;");
+        Check.fault(2, T + "line a of ^;");
+        Check.fault(2, T + "line a of 0 1 ^;");
+        Check.fault(2, T + "line a of 0 1 1 ^0;");
+        Check.fault(2, T + "line a of 0 1 1 ^100;");
+        Check.fault(2, T + "line a of 0 1 ^-1;");
+        Check.fault(2, T + "line a of 0 1 ^b");
+        Check.fault(2, L + "^piece 3 4 5;");
+        Check.fault(2, L + "word w is a 1;^piece 3 4 5;");
+        Check.fault(2, L + "word ^is is a 1;");
+        Check.fault(2, L + "word ^word is a 1;");
+        Check.fault(2, L + "word w ^of a 1;");
+        Check.fault(2, L + "word w is ^;");
+        Check.fault(2, L + "word w is ^1;");
+        Check.fault(2, L + "word w is ^line 1;");
+        Check.fault(2, L + "word w is a ^;");
+        Check.fault(2, L + "word w is a ^b;");
+        Check.fault(2, L + "word w is a -^-1;");
+        Check.fault(2, L + "word w is a - ^;");
+        Check.fault(2, L + "word w is a 1 ^1;");
+        Check.fault(2, L + "word w is a 1 ^of;");
+        Check.fault(2, L + "word w is a 1^");
+        Check.fault(2, L + "word w is a 1 a 1 a 1 a 1 a 1 a 1 a 1 a 1 ^a 1;");
+        Check.fault(2, L + "word w is a 1 a 1 a 1 a 1 a 1 a 1 a 1 a 1 ^z 1;");
+        Check.fault(2, L + "line b of 0 1 1;line c of 0 1 1;line d of 0 1 1;line e of 0 1 1;line f of 0 1 1;"
             + "line g of 0 1 1;line h of 0 1 1;^line i of 0 1 1;");
-        fault(2, L + "word a is a 1;word b is a 1;word c is a 1;word d is a 1;word e is a 1;word f is a 1;^word f is");
-        fault(2, twelvePieces() + "^piece 0 0 0;");
-        fault(2, "line a of ^1;");
-        fault(2, "line a of^;");
+        Check.fault(2, L + "word a is a 1;word b is a 1;word c is a 1;word d is a 1;word e is a 1;word f is a 1;^word f is");
+        Check.fault(2, twelvePieces() + "^piece 0 0 0;");
+        Check.fault(2, "line a of ^1;");
+        Check.fault(2, "line a of^;");
     }
 
     private static void toldAlready() {
-        fault(3, "piece 0 0 ^0");
-        fault(3, "piece 0 0 ^0000;");
-        fault(3, T + "piece ^2 3 4;");
-        fault(3, T + "piece 3 3 ^3;");
-        fault(3, L + "line ^a of 0 1 1;");
-        fault(3, L + "word a is a 1;word ^a is a 1;");
+        Check.fault(3, "piece 0 0 ^0");
+        Check.fault(3, "piece 0 0 ^0000;");
+        Check.fault(3, T + "piece ^2 3 4;");
+        Check.fault(3, T + "piece 3 3 ^3;");
+        Check.fault(3, L + "line ^a of 0 1 1;");
+        Check.fault(3, L + "word a is a 1;word ^a is a 1;");
     }
 
     private static void noNumber() {
-        fault(4, "piece ^18 0 1;");
-        fault(4, "piece 0 1 ^9999;");
-        fault(4, T + "line a of ^100 1 1;");
-        fault(4, T + "line a of 0 1 ^0100;");
-        fault(4, L + "word w is a ^0;");
-        fault(4, L + "word w is a ^10;");
-        fault(4, L + "word w is a ^-0;");
-        fault(4, L + "word w is a ^- 10;");
-        fault(4, L + "word w is a^-\n\n9999;");
-        fault(4, L + "word w is a 9 a ^-10$");
+        Check.fault(4, "piece ^18 0 1;");
+        Check.fault(4, "piece 0 1 ^9999;");
+        Check.fault(4, T + "line a of ^100 1 1;");
+        Check.fault(4, T + "line a of 0 1 ^0100;");
+        Check.fault(4, L + "word w is a ^0;");
+        Check.fault(4, L + "word w is a ^10;");
+        Check.fault(4, L + "word w is a ^-0;");
+        Check.fault(4, L + "word w is a ^- 10;");
+        Check.fault(4, L + "word w is a^-\n\n9999;");
+        Check.fault(4, L + "word w is a 9 a ^-10$");
     }
 
     private static void noLine() {
-        fault(5, L + "word w is ^b 1;");
-        fault(5, L + "word w is ^w 1;");
-        fault(5, L + "word v is a 1;word w is ^v 1;");
-        fault(5, L + "word w is ^aa 1;");
-        fault(5, L + "word w is a 1 ^ab 1;");
-        fault(5, T + "word w is ^a 1;");
-        fault(5, "word w is ^a 1;");
+        Check.fault(5, L + "word w is ^b 1;");
+        Check.fault(5, L + "word w is ^w 1;");
+        Check.fault(5, L + "word v is a 1;word w is ^v 1;");
+        Check.fault(5, L + "word w is ^aa 1;");
+        Check.fault(5, L + "word w is a 1 ^ab 1;");
+        Check.fault(5, T + "word w is ^a 1;");
+        Check.fault(5, "word w is ^a 1;");
     }
 
     private static void notFitting() {
-        fault(6, "piece 0 1 2;^");
-        fault(6, "piece 0 1 2; \n ^");
-        fault(6, "piece 0 1 2; ^line a");
-        fault(6, "piece 0 1 2;^word w");
-        fault(6, "piece 0 1 2;piece 0 1 3;^");
-        fault(6, "piece 0 1 3;piece 0 1 3;^");
-        fault(6, "piece 1 2 3;piece 1 2 3;^");
-        fault(6, "piece 0 0 1;piece 1 2 2;piece 3 4 5;piece 3 4 5;^");
-        fault(6, T + "piece 3 4 5;^line");
-        fault(6, T + "line a of 1 1 1^;");
-        fault(6, T + "line a of 0 1 3 ^;");
-        fault(6, T + "line a of 4 1 1^;");
-        fault(6, T + "line a of 0 1 1;line b of 0 0 2^;");
-        fault(6, "piece 0 0 1;piece 1 2 2;line a of 0 2 0^;");
-        fault(6, "piece 0 0 1;piece 1 2 2;line a of 1 3 2^;");
+        Check.fault(6, "piece 0 1 2;^");
+        Check.fault(6, "piece 0 1 2; \n ^");
+        Check.fault(6, "piece 0 1 2; ^line a");
+        Check.fault(6, "piece 0 1 2;^word w");
+        Check.fault(6, "piece 0 1 2;piece 0 1 3;^");
+        Check.fault(6, "piece 0 1 3;piece 0 1 3;^");
+        Check.fault(6, "piece 1 2 3;piece 1 2 3;^");
+        Check.fault(6, "piece 0 0 1;piece 1 2 2;piece 3 4 5;piece 3 4 5;^");
+        Check.fault(6, T + "piece 3 4 5;^line");
+        Check.fault(6, T + "line a of 1 1 1^;");
+        Check.fault(6, T + "line a of 0 1 3 ^;");
+        Check.fault(6, T + "line a of 4 1 1^;");
+        Check.fault(6, T + "line a of 0 1 1;line b of 0 0 2^;");
+        Check.fault(6, "piece 0 0 1;piece 1 2 2;line a of 0 2 0^;");
+        Check.fault(6, "piece 0 0 1;piece 1 2 2;line a of 1 3 2^;");
         // each of the PIECES is looked at: only the first, the second, the last one does not fit
-        fault(6, Check.FOUR_POINTS + "line a of 0 2 1 1 0 0^;");
-        fault(6, Check.FOUR_POINTS + "line a of 1 2 0 0 0 0^;");
-        fault(6, Check.FOUR_POINTS + "line a of 0 0 1 1 2 0^;");
-        fault(6, "piece 0 0 1;piece 1 2 2;line a of 1 1 1^;");
+        Check.fault(6, Check.FOUR_POINTS + "line a of 0 2 1 1 0 0^;");
+        Check.fault(6, Check.FOUR_POINTS + "line a of 1 2 0 0 0 0^;");
+        Check.fault(6, Check.FOUR_POINTS + "line a of 0 0 1 1 2 0^;");
+        Check.fault(6, "piece 0 0 1;piece 1 2 2;line a of 1 1 1^;");
     }
 
     private static void theFirstByItsPlace() {
-        fault(2, "piece 0 1 2;^foo");
-        fault(1, "piece 0 1 2;^Foo");
-        fault(1, "piece 0 1 ^$ 18 0;");
-        fault(4, "piece ^18 $");
-        fault(3, "piece 0 0 ^0 18;");
-        fault(2, "piece 0 ^");
-        fault(6, "piece 0 1 2;^line line");
+        Check.fault(2, "piece 0 1 2;^foo");
+        Check.fault(1, "piece 0 1 2;^Foo");
+        Check.fault(1, "piece 0 1 ^$ 18 0;");
+        Check.fault(4, "piece ^18 $");
+        Check.fault(3, "piece 0 0 ^0 18;");
+        Check.fault(2, "piece 0 ^");
+        Check.fault(6, "piece 0 1 2;^line line");
     }
 
     private static String twelvePieces() {
@@ -173,26 +155,26 @@ public final class FaultTest {
     }
 
     private static void right() {
-        lines(0, "");
-        lines(0, " \n\n ");
-        lines(0, T);
-        lines(0, "piece0 1 2;piece\n0001 2 00;");
-        lines(0, twelvePieces());
-        lines(1, L);
-        lines(1, T + "line abcdefgh of 0 1 1;");
-        lines(1, T + "line pieces of0 1 1;word ofis is pieces-9pieces9pieces - 1;".replace("9p", "9 p"));
-        lines(1, T + "line a of 0099 99 0 ;word a is a 0009 a -9;");
-        lines(2, L + "word a is a 1;line b of 0 0 0;word b is b 1 a 2;");
-        lines(8, L + "line b of 0 1 1;line c of 0 1 1;line d of 0 1 1;line e of 0 1 1;line f of 0 1 1;"
+        Check.right(0, "");
+        Check.right(0, " \n\n ");
+        Check.right(0, T);
+        Check.right(0, "piece0 1 2;piece\n0001 2 00;");
+        Check.right(0, twelvePieces());
+        Check.right(1, L);
+        Check.right(1, T + "line abcdefgh of 0 1 1;");
+        Check.right(1, T + "line pieces of0 1 1;word ofis is pieces-9pieces9pieces - 1;".replace("9p", "9 p"));
+        Check.right(1, T + "line a of 0099 99 0 ;word a is a 0009 a -9;");
+        Check.right(2, L + "word a is a 1;line b of 0 0 0;word b is b 1 a 2;");
+        Check.right(8, L + "line b of 0 1 1;line c of 0 1 1;line d of 0 1 1;line e of 0 1 1;line f of 0 1 1;"
             + "line g of 0 1 1;line h of 0 1 1;");
-        lines(1, L + "word a is a 1;word b is a 1;word c is a 1;word d is a 1;word e is a 1;word f is a 1 a 1 a 1 a 1"
+        Check.right(1, L + "word a is a 1;word b is a 1;word c is a 1;word d is a 1;word e is a 1;word f is a 1 a 1 a 1 a 1"
             + " a 1 a 1 a 1 a 1;");
         StringBuilder longest = new StringBuilder(L);
         while (longest.length() < 1600) {
             longest.append(' ');
         }
-        lines(1, longest.toString());
-        fault(6, T + "line a of 2 0 0^;" + longest.substring(0, 1560 - L.length()));
+        Check.right(1, longest.toString());
+        Check.fault(6, T + "line a of 2 0 0^;" + longest.substring(0, 1560 - L.length()));
     }
 
     private static void allStays() {

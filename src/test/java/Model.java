@@ -68,6 +68,15 @@ final class Model {
     private int faultKind;
     private int faultPlace = NONE;
 
+    static Model on(String text) {
+        Model model = new Model();
+        model.tape.append(text);
+        if (model.ground() == NONE) {
+            throw new IllegalArgumentException("fault " + model.faultKind + " at " + model.faultPlace + " of " + text);
+        }
+        return model;
+    }
+
     // ---- the tape
 
     int feed(int... n) {

@@ -10,6 +10,10 @@ public final class SketchTest {
         bothSidesInOnePiece();
         manyPieces();
         longOnes();
+        everyFirstByte();
+        everyEdgeOfEveryPiece();
+        everywhereAndEitherWay();
+        asLongAsCanBe();
         Check.finish(SketchTest.class);
     }
 
@@ -151,5 +155,140 @@ public final class SketchTest {
         isNot(x, there.toString() + back, -2);
         LoopGround two = Check.on(Check.TWO_HANDLES);
         isTrue(two, "0" + "aa".repeat(798) + "bfe", 0, 1, 0, 0, 1, 1, 0, 0, 0);
+    }
+
+    private static void everyFirstByte() {
+        int[] pieces = {0, 2, 4, 6, 12};
+        String[] texts = {"", Check.TORUS, Check.FOUR_POINTS, Check.TWO_HANDLES, Check.FULL};
+        for (int i = 0; i < texts.length; i++) {
+            LoopGround x = Check.on(texts[i]);
+            for (int b = 0; b < 256; b++) {
+                isNot(x, "" + (char) b, b >= 48 && b < 48 + pieces[i] ? -2 : NONE);
+            }
+        }
+        LoopGround x = Check.on(Check.TORUS);
+        for (int b = 0; b < 256; b++) {
+            isNot(x, "0" + (char) b + (char) b, b >= 97 && b <= 99 ? -2 : NONE);
+            isNot(x, "0" + (char) b, NONE);
+        }
+        LoopGround full = Check.on(Check.FULL);
+        isNot(full, ";rr", -2);
+        isNot(full, ";ss", NONE);
+        isNot(full, "<rr", NONE);
+        isNot(full, ";``", NONE);
+    }
+
+    /** There and back over each EDGE, from each PIECE: no SKETCH, if it is none of that PIECE. */
+    private static void everyEdgeOfEveryPiece() {
+        for (String text : new String[] {Check.TORUS, Check.FOUR_POINTS, Check.TWO_HANDLES, Check.ladder(12)}) {
+            LoopGround x = Check.on(text);
+            String[] pieces = text.split(";");
+            for (int piece = 0; piece <= pieces.length; piece++) {
+                for (int edge = 0; edge <= x.about(1); edge++) {
+                    boolean there = piece < pieces.length && (pieces[piece] + " ").contains(" " + edge + " ");
+                    isNot(x, "" + (char) (48 + piece) + (char) (97 + edge) + (char) (97 + edge), there ? -2 : NONE);
+                }
+            }
+        }
+    }
+
+    /** A LOOP that is not the same backward: begun in each of its PIECES, gone through either way. */
+    private static void everywhereAndEitherWay() {
+        LoopGround x = Check.on(Check.TWO_HANDLES);
+        int[] row = {0, 1, 0, 0, 1, 1, 0, 0, 0};
+        for (String text : new String[] {"0bfe", "2feb", "1ebf", "0efb", "1fbe", "2bef"}) {
+            isTrue(x, text, row);
+        }
+        for (String text : new String[] {"1bfe", "0feb", "2ebf", "1efb", "2fbe", "0bef", "0bf", "0bfeb"}) {
+            isNot(x, text, NONE);
+        }
+        // the same with what is left out ahead of it, behind it, in it, and round the end
+        isTrue(x, "0aabfe", row);
+        isTrue(x, "0bfeaa", row);
+        isTrue(x, "0bggfe", row);
+        isTrue(x, "0bfaae", row);
+        isTrue(x, "2bbfeb", row);
+        isTrue(x, "0aebfa", row);
+        isTrue(x, "1ebfee", row);
+        isTrue(x, "3gfebg", row);
+        isTrue(x, "4hgfebgh", row);
+        isTrue(x, "5ihgfebghi", row);
+        longerOnes();
+    }
+
+    private static void longerOnes() {
+        String lines = "line a of 1 0 0 0 1 0 0 0 0;line b of 0 1 0 0 1 1 0 0 0;line c of 0 0 1 0 0 0 0 1 1;"
+            + "line d of 0 0 0 1 0 0 0 0 1;line q of 0 1 0 1 1 1 2 2 1;";
+        LoopGround x = Check.on(Check.TWO_HANDLES + lines);
+        int found = 0;
+        for (int line = 0; line < 5; line++) {
+            x.lay(line);
+            x.twist(0, 1);
+            x.twist(1, -2);
+            x.twist(3, 1);
+            x.twist(2, 2);
+            StringBuilder text = new StringBuilder();
+            for (int i = 0; x.traced(NONE, i) >= 0; i++) {
+                text.append((char) ('a' + x.traced(NONE, i)));
+            }
+            String round = text.toString();
+            if (x.loops(NONE, 2) != 1 || (round + round).contains(new StringBuilder(text).reverse())) {
+                continue;
+            }
+            found++;
+            for (int turn = 0; turn < round.length(); turn++) {
+                String turned = round.substring(turn) + round.substring(0, turn);
+                oneOfThePieces(x, turned);
+                oneOfThePieces(x, new StringBuilder(turned).reverse().toString());
+            }
+        }
+        Check.due("some that are not the same backward", found > 0, true);
+    }
+
+    /** From one PIECE it is TRUE; from another it is no SKETCH at all, or the same SKETCH over the other SIDES. */
+    private static void oneOfThePieces(LoopGround x, String edges) {
+        int right = 0;
+        for (int piece = 0; piece < x.about(0); piece++) {
+            int answer = Check.sketch(x, "" + (char) (48 + piece) + edges);
+            if (answer != NONE) {
+                right++;
+                Check.due("sketch " + piece + edges, answer, edges.length());
+                for (int edge = 0; edge < x.about(1); edge++) {
+                    Check.due("lies(" + edge + ")", x.lies(edge), x.number(NONE, edge));
+                }
+            }
+        }
+        Check.due("right pieces for " + edges, right > 0, true);
+    }
+
+    /** The TAPE holds 1,600 bytes, so a SKETCH may cross 1,599 EDGES. */
+    private static void asLongAsCanBe() {
+        LoopGround x = Check.on(Check.TWO_HANDLES + "line a of 1 0 0 0 1 0 0 0 0;line b of 0 1 0 0 1 1 0 0 0;"
+            + "line c of 0 0 1 0 0 0 0 1 1;line d of 0 0 0 1 0 0 0 0 1;line q of 0 1 0 1 1 1 2 2 1;");
+        java.util.Random random = new java.util.Random(3);
+        long all = 0;
+        for (int tries = 0; tries < 200000 && all != 1599; tries++) {
+            x.lay(random.nextInt(5));
+            all = 0;
+            for (int k = 0; k < 8 && all < 1599; k++) {
+                all = x.twist(random.nextInt(5), random.nextInt(13) - 6);
+            }
+        }
+        Check.due("1599 edges are crossed", all, 1599);
+        StringBuilder text = new StringBuilder();
+        for (int i = 0; i < 1599; i++) {
+            text.append((char) ('a' + x.traced(NONE, i)));
+        }
+        oneOfThePieces(x, text.toString());
+        oneOfThePieces(x, text.reverse().toString());
+        // two that are crossed in another order
+        int at = 0;
+        while (text.charAt(at) == text.charAt(at + 2)) {
+            at++;
+        }
+        text.setCharAt(at, text.charAt(at + 2));
+        for (int piece = 0; piece < 6; piece++) {
+            Check.due("not true, or no sketch", Check.sketch(x, "" + (char) (48 + piece) + text) < 0, true);
+        }
     }
 }
