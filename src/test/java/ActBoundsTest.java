@@ -14,6 +14,7 @@ public final class ActBoundsTest {
         boxesOfNothing();
         aboutAll();
         spentBackAndForth();
+        spentInAFlip();
         lastOf512();
         Check.finish(ActBoundsTest.class);
     }
@@ -270,6 +271,26 @@ public final class ActBoundsTest {
         Check.numbers(x, NONE, row[0] - row[1], row[1], row[0]);
         Check.due("and forth again", x.go(0), 2 * Slopes.LIMIT);
         Check.due("go down", x.go(1), 2 * row[0]);
+    }
+
+    /** With 2 1 1 made SHORT, EDGE 0 of p, q, p + q comes to p + 2 q: SPENT ahead of any TWIST, if that is too much. */
+    private static void spentInAFlip() {
+        for (long sum = Slopes.LIMIT; sum <= Slopes.LIMIT + 1; sum++) {
+            LoopGround x = Check.on(Check.TORUS_LINES + "line d of 2 1 1;word d is d 1;word e is d -1;");
+            long[] row = Slopes.rowWith(sum, 0.41421356, 2);
+            Slopes.growTo(x, row[0], row[1]);
+            x.undo();
+            x.redo();
+            int acts = x.about(6);
+            Check.due("cross", x.cross(NONE, 3), sum > Slopes.LIMIT ? -2 : sum);
+            Check.due("twist(3, 1)", x.twist(3, 1), -2);
+            Check.due("twist(3, -1)", x.twist(3, -1), -2);
+            Check.due("twist(3, 99)", x.twist(3, 99), -2);
+            Check.due("go(0)", x.go(0), -2);
+            Check.due("go(1)", x.go(1), -2);
+            Check.numbers(x, NONE, row[0], row[1], row[0] + row[1]);
+            Check.due("acts", x.about(6), acts);
+        }
     }
 
     /** An object answers 512 calls. */

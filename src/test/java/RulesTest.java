@@ -1,17 +1,26 @@
+import com.sun.source.tree.ArrayTypeTree;
 import com.sun.source.tree.AssertTree;
+import com.sun.source.tree.BlockTree;
 import com.sun.source.tree.CatchTree;
 import com.sun.source.tree.ClassTree;
 import com.sun.source.tree.CompilationUnitTree;
+import com.sun.source.tree.DoWhileLoopTree;
+import com.sun.source.tree.EnhancedForLoopTree;
+import com.sun.source.tree.ForLoopTree;
 import com.sun.source.tree.ImportTree;
 import com.sun.source.tree.LambdaExpressionTree;
+import com.sun.source.tree.LiteralTree;
 import com.sun.source.tree.MemberReferenceTree;
 import com.sun.source.tree.MethodInvocationTree;
 import com.sun.source.tree.MethodTree;
+import com.sun.source.tree.NewArrayTree;
 import com.sun.source.tree.NewClassTree;
+import com.sun.source.tree.PrimitiveTypeTree;
 import com.sun.source.tree.SynchronizedTree;
 import com.sun.source.tree.ThrowTree;
 import com.sun.source.tree.Tree;
 import com.sun.source.tree.TryTree;
+import com.sun.source.tree.TypeCastTree;
 import com.sun.source.tree.VariableTree;
 import com.sun.source.tree.WhileLoopTree;
 import com.sun.source.util.JavacTask;
@@ -29,6 +38,7 @@ import java.util.TreeSet;
 import javax.lang.model.element.Element;
 import javax.lang.model.element.ExecutableElement;
 import javax.lang.model.element.Modifier;
+import javax.lang.model.type.TypeKind;
 import javax.tools.JavaCompiler;
 import javax.tools.StandardJavaFileManager;
 import javax.tools.ToolProvider;
@@ -118,6 +128,75 @@ public final class RulesTest extends TreePathScanner<Void, String> {
     public Void visitWhileLoop(WhileLoopTree tree, String in) {
         // None is needed: a loop here counts against a bound that stands in its first line.
         return never(tree);
+    }
+
+    @Override
+    public Void visitDoWhileLoop(DoWhileLoopTree tree, String in) {
+        return never(tree);
+    }
+
+    @Override
+    public Void visitForLoop(ForLoopTree tree, String in) {
+        Check.due("a loop's bound, in line " + line(tree, false), tree.getCondition() != null, true);
+        Check.due("a loop's step, in line " + line(tree, false), tree.getUpdate().size(), 1);
+        Check.due("a loop's beginning, in line " + line(tree, false), tree.getInitializer().size(), 1);
+        return super.visitForLoop(tree, in);
+    }
+
+    @Override
+    public Void visitEnhancedForLoop(EnhancedForLoopTree tree, String in) {
+        return never(tree);
+    }
+
+    @Override
+    public Void visitBlock(BlockTree tree, String in) {
+        Check.due("no static block, in line " + line(tree, false), tree.isStatic(), false);
+        return super.visitBlock(tree, in);
+    }
+
+    @Override
+    public Void visitLiteral(LiteralTree tree, String in) {
+        // No text is held or joined: words of a GROUND are numbers.
+        Check.due("no text, in line " + line(tree, false), tree.getKind() == Tree.Kind.STRING_LITERAL, false);
+        return super.visitLiteral(tree, in);
+    }
+
+    @Override
+    public Void visitTypeCast(TypeCastTree tree, String in) {
+        Check.due("casts to numbers alone, in line " + line(tree, false), tree.getType() instanceof PrimitiveTypeTree, true);
+        return super.visitTypeCast(tree, in);
+    }
+
+    @Override
+    public Void visitPrimitiveType(PrimitiveTypeTree tree, String in) {
+        TypeKind kind = tree.getPrimitiveTypeKind();
+        Check.due("no " + kind + ", in line " + line(tree, false), kind == TypeKind.FLOAT || kind == TypeKind.DOUBLE, false);
+        return super.visitPrimitiveType(tree, in);
+    }
+
+    @Override
+    public Void visitNewArray(NewArrayTree tree, String in) {
+        Check.due("a new row in " + in, in.contains(".") && !in.endsWith("<init>"), false);
+        Check.due("at most two dimensions, in " + in, tree.getDimensions().size() <= 2, true);
+        return super.visitNewArray(tree, in);
+    }
+
+    @Override
+    public Void visitVariable(VariableTree tree, String in) {
+        Tree type = tree.getType();
+        int dimensions = 0;
+        for (; type instanceof ArrayTypeTree array && dimensions < 9; dimensions++) {
+            type = array.getType();
+        }
+        boolean number = type instanceof PrimitiveTypeTree;
+        Check.due("dimensions of " + tree.getName(), dimensions <= (number ? 2 : 1), true);
+        Check.due("a number or a class of its own: " + tree.getName() + " " + type,
+            number || Set.of("Told", "Reader", "Tracer", "Road", "Shortener", "Mover", "Table", "Counter", "Acts", "Drawing")
+                .contains(type.toString()), true);
+        if (tree.getModifiers().getFlags().contains(Modifier.STATIC)) {
+            Check.due("a static number: " + tree.getName(), number && dimensions == 0, true);
+        }
+        return super.visitVariable(tree, in);
     }
 
     @Override

@@ -140,13 +140,23 @@ public final class WordsTest {
         likeParts();
     }
 
+    /** Of like parts x + z is taken in a FLIP, a + b in a TWIST, either way about. */
     private static void likeParts() {
+        LoopGround x = Check.on(Check.TORUS_LINES + "line d of 2 1 1;word w is a 1;word v is a -1;word u is d 1;");
         // Along a, of (1 1 0): a + b = 2 and 2 f = 2 are like, so a + b is taken: EDGE 1 is twice EDGE 0, less EDGE 2.
-        LoopGround x = Check.on(Check.TORUS_LINES + "word w is a 1;");
-        int[][] want = {{1, 0, 0}, {2, 0, 1000002}, {0, 1, 0}};
+        sameTable(x, 0, 2, new int[][] {{1, 0, 0}, {2, 0, -1}, {0, 1, 0}});
+        // The other way about, of (1 0 1): a + b = 2 and 2 e = 2 are like: EDGE 2 is twice EDGE 0, less EDGE 1.
+        sameTable(x, 1, 1, new int[][] {{1, 0, 0}, {0, 0, 1}, {2, -1, 0}});
+        // Along d, of (2 1 1): EDGE 0 is flipped there and back with x = z = 1, y = w = 2, like both times; between these
+        // f = 2 and e = 1, and 2 f is greater.
+        sameTable(x, 2, 3, new int[][] {{1, -2, 2}, {0, 0, 1}, {0, -1, 2}});
+    }
+
+    private static void sameTable(LoopGround x, int word, int line, int[][] want) {
         for (int i = 0; i < 3; i++) {
             for (int j = 0; j < 3; j++) {
-                Check.due("table(0, 2, " + i + ", " + j + ")", x.table(0, 2, i, j), want[i][j]);
+                Check.due("table(" + word + ", " + line + ", " + i + ", " + j + ")", x.table(word, line, i, j),
+                    Math.floorMod(want[i][j], 1000003));
             }
         }
     }
