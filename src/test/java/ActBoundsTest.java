@@ -8,6 +8,7 @@ public final class ActBoundsTest {
         lays();
         timesOfATwist();
         sixtyOfEachSort();
+        manyMoreThanSixty();
         whatIsNoAct();
         redoTillAnotherAct();
         boxes();
@@ -112,6 +113,44 @@ public final class ActBoundsTest {
         for (int edge = 0; edge < 3; edge++) {
             Check.due("as behind " + acts + " acts", x.number(NONE, edge), other.number(NONE, edge));
         }
+    }
+
+    /** What is kept goes round and round: from 300 ACTS the latest 60, from an image on those behind it alone. */
+    private static void manyMoreThanSixty() {
+        LoopGround x = Check.on(Check.TORUS_LINES + "word w is a 1;");
+        for (int k = 0; k < 300; k++) {
+            act(x, k);
+        }
+        Check.due("acts", x.about(6), 60);
+        for (int k = 0; k < 60; k++) {
+            Check.due("undo", x.undo(), true);
+        }
+        Check.due("undo", x.undo(), false);
+        asBehind(x, 240);
+        LoopGround y = Check.on(Check.TORUS_LINES + "word w is a 1;");
+        for (int k = 0; k < 100; k++) {
+            act(y, k);
+        }
+        y.image(0);
+        act(y, 100);
+        Check.due("back", y.back(0) > 0, true);
+        Check.due("acts", y.about(6), 0);
+        asBehind(y, 100);
+        for (int k = 100; k < 161; k++) {
+            Check.due("acts", y.about(6), k - 100);
+            act(y, k);
+        }
+        Check.due("acts", y.about(6), 60);
+        for (int k = 0; k < 60; k++) {
+            Check.due("undo", y.undo(), true);
+        }
+        Check.due("undo", y.undo(), false);
+        asBehind(y, 101);
+        for (int k = 0; k < 60; k++) {
+            Check.due("redo", y.redo(), true);
+        }
+        Check.due("redo", y.redo(), false);
+        asBehind(y, 161);
     }
 
     private static void whatIsNoAct() {

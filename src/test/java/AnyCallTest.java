@@ -20,7 +20,8 @@ public final class AnyCallTest {
 
     public static void main(String[] args) {
         long least = Long.MAX_VALUE;
-        for (int seed = 0; seed < 200; seed++) {
+        int runs = args.length > 0 ? Integer.parseInt(args[0]) : 200;
+        for (int seed = 0; seed < runs; seed++) {
             AnyCallTest test = new AnyCallTest(seed);
             long before = allocated();
             for (int k = 0; k < 512; k++) {
